@@ -29,10 +29,10 @@ public final class AvoidanceLab {
 
     private final ArrayList<Family> families = new ArrayList<Family>();
     private final Matcher matcher = new Matcher();
-    private final Basis draft = new Basis(matcher);
+    private final Basis draft = new Basis();
     private final Machine works = new Machine();
     private final Grid grid = new Grid();
-    private final Signs signs = new Signs(matcher);
+    private final Signs signs = new Signs();
     private final Rule rule = new Rule();
     private final Row row = new Row();
     private final Row second = new Row();
@@ -492,7 +492,7 @@ public final class AvoidanceLab {
     }
 
     private int addFamily() {
-        Family family = new Family(matcher);
+        Family family = new Family();
         family.adopt(draft);
         families.add(family);
         return families.size() - 1;
@@ -662,7 +662,7 @@ public final class AvoidanceLab {
         }
 
         int last() {
-            return numberAt(size - 1);
+            return size > 0 ? numbers[size - 1] : 0;
         }
 
         /** The place of a number, or -1. */
@@ -676,9 +676,9 @@ public final class AvoidanceLab {
         }
 
         void copy(Row from) {
-            size = 0;
-            for (int place = 0; place < from.size; place++) {
-                append(from.numbers[place]);
+            size = from.size;
+            for (int place = 0; place < size; place++) {
+                numbers[place] = from.numbers[place];
             }
         }
 
@@ -1057,7 +1057,7 @@ public final class AvoidanceLab {
         private int lastPlace(Row whole, Row pattern, int depth) {
             int last = whole.size - pattern.size + depth;
             boolean isBound = depth > 0 && (bits >> (depth - 1) & 1) == 1;
-            return isBound ? Math.min(last, places[depth - 1] + 1) : last;
+            return isBound && places[depth - 1] < last ? places[depth - 1] + 1 : last;
         }
 
         private boolean fits(Row pattern, int depth, int number) {
@@ -1101,10 +1101,9 @@ public final class AvoidanceLab {
     private static final class Basis {
         int size = 0;
         private final Row[] patterns = new Row[2 * MOST_PATTERNS];
-        private final Matcher matcher;
+        private final Matcher matcher = new Matcher();
 
-        Basis(Matcher matcher) {
-            this.matcher = matcher;
+        Basis() {
             for (int index = 0; index < patterns.length; index++) {
                 patterns[index] = new Row();
             }
@@ -1202,15 +1201,14 @@ public final class AvoidanceLab {
         // Where those of a size begin in the list; 0 stands for the one of no numbers, from which all grow.
         private static final int[] STARTS = {0, 1, 2, 4, 10, 34, 154, 874, 5914};
 
-        final Basis basis;
+        final Basis basis = new Basis();
         private final int[] members = new int[5914];
         private final int[] counts = new int[GREATEST_LISTED + 1];
         private int listed = 0;
         private final Row shorter = new Row();
         private final Row longer = new Row();
 
-        Family(Matcher matcher) {
-            basis = new Basis(matcher);
+        Family() {
             counts[0] = 1;
         }
 
@@ -1219,32 +1217,27 @@ public final class AvoidanceLab {
             listed = 0;
         }
 
-        /** Lists the permutations up to a size; what is listed already stays. */
-        void list(int size) {
-            int end = Math.min(size, GREATEST_LISTED);
-            for (int each = listed + 1; each <= end; each++) {
-                listOfSize(each);
-                listed = each;
-            }
-        }
-
         /**
-         * Without its first number a permutation of the class is one of the class too. So those of a size come,
-         * in order, of a first number and of those of the size 1 less.
+         * Lists the permutations up to a size; what is listed already stays. Without its first number a permutation
+         * of the class is one of the class too. So those of a size come, in order, of a first number and of those of
+         * the size 1 less.
          */
-        private void listOfSize(int size) {
-            int found = 0;
-            for (int number = 1; number <= size; number++) {
-                for (int index = 0; index < counts[size - 1]; index++) {
-                    shorter.read(members[STARTS[size - 1] + index]);
-                    longer.takeWith(shorter, 0, number);
-                    if (!basis.isMetAtFront(longer)) {
-                        members[STARTS[size] + found] = longer.digits();
-                        found++;
+        void list(int most) {
+            for (int size = listed + 1; size <= most && size <= GREATEST_LISTED; size++) {
+                int found = 0;
+                for (int number = 1; number <= size; number++) {
+                    for (int index = 0; index < counts[size - 1]; index++) {
+                        shorter.read(members[STARTS[size - 1] + index]);
+                        longer.takeWith(shorter, 0, number);
+                        if (!basis.isMetAtFront(longer)) {
+                            members[STARTS[size] + found] = longer.digits();
+                            found++;
+                        }
                     }
                 }
+                counts[size] = found;
+                listed = size;
             }
-            counts[size] = found;
         }
 
         /** How many there are of a size that is listed. */
@@ -1260,7 +1253,8 @@ public final class AvoidanceLab {
         int howManyChildren(Row row) {
             int many = 0;
             for (int place = 0; place <= row.size; place++) {
-                if (bears(row, place, longer)) {
+                longer.takeWith(row, place, row.size + 1);
+                if (!basis.isMetBy(longer)) {
                     many++;
                 }
             }
@@ -1510,11 +1504,10 @@ public final class AvoidanceLab {
         private final Row[] between = new Row[1 << GREATEST_SIGNED];
         private final int[] weights = new int[1 << GREATEST_SIGNED];
         private final Row part = new Row();
-        private final Matcher matcher;
+        private final Matcher matcher = new Matcher();
         private int many = 0;
 
-        Signs(Matcher matcher) {
-            this.matcher = matcher;
+        Signs() {
             for (int index = 0; index < between.length; index++) {
                 between[index] = new Row();
             }

@@ -49,6 +49,7 @@ public final class PromisesTest {
         bases();
         meets();
         joins();
+        joinsAtTheEdge();
         membership();
         counts();
         listing();
@@ -249,6 +250,9 @@ public final class PromisesTest {
         due(7, x.occurrences(123456, 12345, 0, 1 << 7), 5);
         due(7, x.occurrences(651234, 1234, 0, 1 << 4), 0);
         due(7, x.occurrences(651234, 1234, 0, 1 << 30), 1);
+        due(7, x.occurrences(234561, 12345, 0, 1 << 30), 0);
+        due(7, x.occurrences(234561, 12345, 0, 1 << 29), 1);
+        due(7, x.occurrences(345612, 1234, 0, 1 << 20), 0);
         due(7, x.occurrences(12345678, 1234567, 0, 2147483647), 4);
         due(7, x.occurrences(4321, 21, 1, 16), 3);
     }
@@ -425,6 +429,30 @@ public final class PromisesTest {
         fails(13, BAD_STATE, () -> y.join(2, 2));
     }
 
+    private static AvoidanceLab labOfTwo(int[] first, int[] second) {
+        AvoidanceLab x = labAvoiding(first);
+        x.open();
+        for (int pattern : second) {
+            x.avoid(1, pattern);
+        }
+        return x;
+    }
+
+    private static void joinsAtTheEdge() {
+        AvoidanceLab x = labOfTwo(new int[] {1}, new int[] {1});
+        due(13, x.join(0, 1), 2);
+        due(13, x.basisAt(2, 0), 1);
+        due(13, x.count(2, 1), 0);
+        AvoidanceLab y = labOfTwo(new int[] {132}, new int[] {2341});
+        due(13, y.join(0, 1), 2);
+        due(13, y.basisAt(2, 11) > 99999, true);
+        fails(13, NO_ELEMENT, () -> y.basisAt(2, 12));
+        // There are twelve up to the size 5, and more of the size 6.
+        AvoidanceLab z = labOfTwo(new int[] {213, 231}, new int[] {12543, 4312});
+        fails(13, UNSUPPORTED, () -> z.join(0, 1));
+        fails(13, BAD_CLASS, () -> z.basisAt(2, 0));
+    }
+
     private static void membership() {
         AvoidanceLab x = labAvoiding(2413, 3142);
         due(14, x.isIn(0, 2413), false);
@@ -598,6 +626,13 @@ public final class PromisesTest {
         due(21, x.sorted(7, 'b', 1), 64);
         due(21, x.sorted(7, 'b', 2), 486);
         due(21, x.sorted(7, 's', 1), 429);
+        int[][] once = {{1, 2, 5, 14, 42, 132, 429}, {1, 2, 4, 8, 16, 32, 64}, {1, 2, 5, 14, 42, 132, 429},
+            {1, 2, 4, 8, 16, 32, 64}};
+        for (int size = 1; size <= 7; size++) {
+            for (int kind = 0; kind < 4; kind++) {
+                due(21, x.sorted(size, "spqb".charAt(kind), 1), once[kind][size - 1]);
+            }
+        }
         fails(21, BAD_ARGUMENT, () -> x.sorted(3, 'x', 1));
     }
 
@@ -620,6 +655,9 @@ public final class PromisesTest {
         x.avoid(1, 12);
         x.avoid(1, 21);
         due(22, x.label(1, 1), 0);
+        AvoidanceLab y = labAvoiding(123);
+        due(22, y.label(0, 213), 3);
+        due(22, y.label(0, 231), 2);
         x.avoid(1, 1);
         fails(22, UNSUPPORTED, () -> x.label(1, 1));
     }
@@ -662,8 +700,13 @@ public final class PromisesTest {
         fails(24, BAD_ARGUMENT, () -> y.hasRule(0, 7));
         fails(24, BAD_CLASS, () -> y.hasRule(1, 7));
         AvoidanceLab z = labAvoiding(231, 4123);
+        due(24, z.count(0, 7) > 0, true);
         due(24, z.hasRule(0, 3), true);
         due(24, z.hasRule(0, 4), false);
+        due(24, z.hasRule(0, 3), true);
+        // It is the size 1, or the first one of the size 2, that is unlike the others.
+        due(24, labAvoiding(123, 321).hasRule(0, 3), false);
+        due(24, labAvoiding(123, 231).hasRule(0, 3), false);
     }
 
     private static void slots() {
@@ -753,6 +796,16 @@ public final class PromisesTest {
         due(29, x.griddings(2143, 2, 2, 220), 0);
         due(29, x.griddings(3412, 2, 2, 110), 1);
         due(29, x.griddings(3412, 2, 2, 1001), 0);
+        due(29, x.griddings(12, 3, 1, 101), 3);
+        due(29, x.griddings(12, 3, 1, 110), 3);
+        due(29, x.griddings(12, 3, 1, 11), 3);
+        due(29, x.griddings(132, 3, 1, 21), 0);
+        due(29, x.griddings(132, 3, 1, 120), 2);
+        due(29, x.griddings(132, 3, 1, 12), 2);
+        due(29, x.griddings(132, 3, 1, 102), 2);
+        due(29, x.griddings(132, 1, 3, 120), 2);
+        due(29, x.griddings(132, 1, 3, 210), 0);
+        due(29, x.griddings(213, 1, 3, 210), 2);
         due(29, x.griddings(12345678, 3, 3, 111111111), 2025);
         due(29, x.griddings(87654321, 3, 3, 222222222), 2025);
     }
@@ -763,6 +816,9 @@ public final class PromisesTest {
         fails(29, BAD_ARGUMENT, () -> x.griddings(12, 4, 1, 1));
         fails(29, BAD_ARGUMENT, () -> x.griddings(12, 1, 0, 1));
         fails(29, BAD_ARGUMENT, () -> x.griddings(12, 1, 4, 1));
+        fails(29, BAD_ARGUMENT, () -> x.griddings(12, 0, 1, 0));
+        fails(29, BAD_ARGUMENT, () -> x.griddings(12, 1, 0, 0));
+        fails(29, BAD_ARGUMENT, () -> x.griddings(12, -1, -1, 1));
         fails(29, BAD_ARGUMENT, () -> x.griddings(12, 1, 1, 3));
         fails(29, BAD_ARGUMENT, () -> x.griddings(12, 1, 1, -1));
         fails(29, BAD_ARGUMENT, () -> x.griddings(12, 1, 1, -10));
