@@ -19,6 +19,7 @@ public final class AvoidanceLab {
     private static final int MOST_PATTERNS = 12;
     private static final int MOST_PASSES = 9;
     private static final int MOST_LINES = 3;
+    private static final int MOST_BITS = 255;
     private static final int SEED_FACTOR = 48271;
     private static final int SEED_MODULUS = 2147483647;
     private static final int GREATEST_INT = 2147483647;
@@ -457,7 +458,7 @@ public final class AvoidanceLab {
     private void readOccurrence(int permutation, int pattern, int bits, int shades) {
         readInto(row, permutation);
         readInto(second, pattern);
-        requireBetween(bits, 0, 255);
+        requireBetween(bits, 0, MOST_BITS);
         requireBetween(shades, 0, GREATEST_INT);
     }
 
@@ -1199,10 +1200,11 @@ public final class AvoidanceLab {
     /** A class: its basis, and its permutations up to the size that was asked for. */
     private static final class Family {
         // Where those of a size begin in the list; 0 stands for the one of no numbers, from which all grow.
-        private static final int[] STARTS = {0, 1, 2, 4, 10, 34, 154, 874, 5914};
+        private static final int[] STARTS = {0, 1, 2, 4, 10, 34, 154, 874};
+        private static final int MOST_MEMBERS = 5914;
 
         final Basis basis = new Basis();
-        private final int[] members = new int[5914];
+        private final int[] members = new int[MOST_MEMBERS];
         private final int[] counts = new int[GREATEST_LISTED + 1];
         private int listed = 0;
         private final Row shorter = new Row();
