@@ -1084,7 +1084,7 @@ public final class AvoidanceLab {
                 int behind = 0;
                 int above = 0;
                 for (int each = 0; each < length; each++) {
-                    isChosen |= places[each] == place;
+                    isChosen = isChosen || places[each] == place;
                     behind += places[each] < place ? 1 : 0;
                     above += chosen[each] < whole.numbers[place] ? 1 : 0;
                 }

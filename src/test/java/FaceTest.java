@@ -1,3 +1,4 @@
+import java.lang.reflect.Field;
 import java.lang.reflect.Method;
 import java.lang.reflect.Modifier;
 import java.nio.file.Files;
@@ -15,6 +16,8 @@ public final class FaceTest {
     private static final Path SOURCE = Path.of("src/main/java/AvoidanceLab.java");
     private static final int LONGEST_METHOD = 60;
     private static final int WIDEST_METHOD = 7;
+    private static final int MOST_CLASSES = 12;
+    private static final int MOST_FIELDS = 20;
 
     private static int wrong = 0;
 
@@ -28,7 +31,9 @@ public final class FaceTest {
     public static void main(String[] args) throws Exception {
         String source = Files.readString(SOURCE);
         checkFace(Files.readString(DOCUMENT));
+        checkClasses();
         checkWords(source);
+        checkMasks(source);
         checkMethods(source);
         if (wrong > 0) {
             System.exit(1);
@@ -63,6 +68,36 @@ public final class FaceTest {
         check(AvoidanceLab.class.getDeclaredConstructors().length == 1, "there is more than one constructor");
         Arrays.stream(AvoidanceLab.class.getDeclaredFields())
                 .forEach(field -> check(Modifier.isPrivate(field.getModifiers()), field + " is not private"));
+    }
+
+    /** Rules 1, 5 and 11: what the classes inside may have. */
+    private static void checkClasses() {
+        TreeSet<String> face = new TreeSet<>();
+        for (Method method : AvoidanceLab.class.getDeclaredMethods()) {
+            if (Modifier.isPublic(method.getModifiers())) {
+                face.add(method.getName());
+            }
+        }
+        List<Class<?>> classes = new ArrayList<>(Arrays.asList(AvoidanceLab.class.getDeclaredClasses()));
+        for (Class<?> inner : classes) {
+            check(Modifier.isPrivate(inner.getModifiers()) && Modifier.isStatic(inner.getModifiers()),
+                    inner + " is not private and static");
+            check(inner.getDeclaredClasses().length == 0, inner + " has classes inside");
+            for (Method method : inner.getDeclaredMethods()) {
+                check(!face.contains(method.getName()), inner + " has a method of the face's name " + method.getName());
+            }
+        }
+        classes.add(AvoidanceLab.class);
+        check(classes.size() <= MOST_CLASSES, "there are " + classes.size() + " classes");
+        for (Class<?> each : classes) {
+            int fields = 0;
+            for (Field field : each.getDeclaredFields()) {
+                boolean isStatic = Modifier.isStatic(field.getModifiers());
+                check(!isStatic || Modifier.isFinal(field.getModifiers()), field + " is static, but not final");
+                fields += isStatic ? 0 : 1;
+            }
+            check(fields <= MOST_FIELDS, each + " has " + fields + " fields");
+        }
     }
 
     private static String types(String parameters) {
@@ -105,6 +140,14 @@ public final class FaceTest {
         }
         for (int place = 0; place < source.length(); place++) {
             check(source.charAt(place) < 128, "a sign beyond 127 at " + place);
+        }
+    }
+
+    /** Rule 10 names masks of int and long alone: each single | and & stands behind or ahead of a shift or a 1. */
+    private static void checkMasks(String source) {
+        for (String line : source.replaceAll("(?m)^ *(//|/?\\*).*$", "").split("\n")) {
+            String rest = line.replaceAll("\\|\\||&&", "").replaceAll("\\|= 1 <<|>> [\\w.\\[\\]]+ & 1\\b|\\) & 1\\b", "");
+            check(rest.indexOf('|') < 0 && rest.indexOf('&') < 0 && rest.indexOf('^') < 0, "a mask of booleans? " + line);
         }
     }
 
